@@ -108,7 +108,6 @@ public final class MeasureTest {
         MidSkins m = Nets.tetrahedron();
         DUE.is("near at level 1", m.near(1, 90, 10, 90), 3);
         DUE.is("near at level 1, of like ones the least", m.near(1, 50, 50, 50), 0);
-        m.place(0, 0, 1);
         DUE.is("near is by squares, not by sums", Nets.octahedron(100).near(0, 70, 69, 69), 0);
         MidSkins far = Nets.cube(1000);
         DUE.is("near, great squares", far.near(3, -100000, 100000, 99999), nearestBySearch(far, 3, -100000, 100000, 99999));
