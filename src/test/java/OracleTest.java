@@ -2,18 +2,13 @@
 public final class OracleTest {
     private static final Due DUE = new Due();
     private static final int RUNS = 400;
-    private static final int CALLS = 300;
+    /** No change but a new net spends more calls than this. */
+    private static final int DEAREST_CHANGE = 16;
+    private static final int DEAREST_NET = 14 * 5 + 14 * 8;
 
-    private static final int[][] TORUS = cyclic(7, new int[][] {{0, 1, 3}, {0, 3, 2}});
     private static final int[][] HEAWOOD = heawood();
-    private static final int[][] PYRAMID = {{0, 1, 2, 3, 4}, {1, 0, 5}, {2, 1, 5}, {3, 2, 5}, {4, 3, 5}, {0, 4, 5}};
-    private static final int[][] PRISM = {{0, 1, 2, 3, 4, 5}, {11, 10, 9, 8, 7, 6}, {1, 0, 6, 7}, {2, 1, 7, 8},
-        {3, 2, 8, 9}, {4, 3, 9, 10}, {5, 4, 10, 11}, {0, 5, 11, 6}};
-    private static final int[][] APART = {{0, 1, 2}, {0, 3, 1}, {0, 2, 3}, {1, 3, 2}, {7, 4, 5}, {7, 6, 4}, {7, 5, 6}, {4, 6, 5}};
-    private static final int[][] PINCHED = {{0, 1, 2}, {0, 3, 1}, {0, 2, 3}, {1, 3, 2}, {3, 4, 5}, {3, 6, 4}, {3, 5, 6}, {4, 6, 5}};
-    private static final int[][] THIN = {{0, 4, 1, 2}, {0, 3, 1, 4}, {0, 2, 3}, {1, 3, 2}};
-    private static final int[][][] SEEDS = {Nets.TETRAHEDRON, Nets.CUBE, Nets.OCTAHEDRON, TORUS, HEAWOOD, PYRAMID,
-        PRISM, APART, PINCHED, THIN};
+    private static final int[][][] SEEDS = {Nets.TETRAHEDRON, Nets.CUBE, Nets.OCTAHEDRON, Nets.TORUS, HEAWOOD,
+        Nets.PYRAMID, Nets.PRISM, Nets.HUB, Nets.APART, Nets.PINCHED, Nets.THIN};
 
     private static long state = 20261116L;
 
@@ -22,28 +17,18 @@ public final class OracleTest {
         DUE.end();
     }
 
-    private static int[][] cyclic(int n, int[][] firsts) {
-        int[][] rings = new int[n * firsts.length][];
-        for (int i = 0; i < rings.length; i++) {
-            int[] first = firsts[i / n];
-            rings[i] = new int[first.length];
-            for (int k = 0; k < first.length; k++) rings[i][k] = (first[k] + i) % n;
-        }
-        return rings;
-    }
-
     /** The net whose plates are the corners of TORUS: 14 corners, 7 rings of six. */
     private static int[][] heawood() {
         int[][] rings = new int[7][6];
         for (int c = 0; c < 7; c++) {
             int from = 0;
-            while (!has(TORUS[from], c)) from++;
+            while (!has(Nets.TORUS[from], c)) from++;
             for (int k = 0; k < 6; k++) {
                 rings[c][k] = from;
                 int before = 0;
-                for (int i = 0; i < 3; i++) if (TORUS[from][(i + 1) % 3] == c) before = TORUS[from][i];
+                for (int i = 0; i < 3; i++) if (Nets.TORUS[from][(i + 1) % 3] == c) before = Nets.TORUS[from][i];
                 int next = 0;
-                while (!steps(TORUS[next], c, before)) next++;
+                while (!steps(Nets.TORUS[next], c, before)) next++;
                 from = next;
             }
         }
@@ -101,8 +86,7 @@ public final class OracleTest {
 
     private static void build(MidSkins m, PlainSkins p) {
         int[][] rings = SEEDS[draw(SEEDS.length)];
-        int corners = 0;
-        for (int[] ring : rings) for (int c : ring) corners = Math.max(corners, c + 1);
+        int corners = Nets.cornersOf(rings);
         for (int c = 0; c < corners; c++) {
             hand(m, p, 2, between(-1000, 1000), between(-50, 50), between(-1000, 1000));
             DUE.is("corner", m.corner(), p.corner());
@@ -123,18 +107,21 @@ public final class OracleTest {
         for (int i = 0; i < numbers.length; i++) DUE.is("put", m.put(lane, i, numbers[i]), p.put(lane, i, numbers[i]));
     }
 
+    /** Ends with the 512th call; each answer that is looked at is one call. */
     private static void oneRun(int run) {
         MidSkins m = new MidSkins();
         PlainSkins p = new PlainSkins();
+        int end = DUE.asked() + Fresh.MOST_CALLS;
         if (run % 8 != 0) build(m, p);
-        for (int i = 0; i < CALLS; i++) {
-            if (draw(3) == 0) change(run, m, p);
+        while (DUE.asked() < end - 1) {
+            int left = end - 1 - DUE.asked();
+            if (draw(3) == 0 && left >= DEAREST_CHANGE) change(run, m, p, left);
             else ask(run, m, p);
         }
         DUE.is("run " + run + ": digest", m.digest(), p.digest());
     }
 
-    private static void change(int run, MidSkins m, PlainSkins p) {
+    private static void change(int run, MidSkins m, PlainSkins p, int left) {
         int a = argument(3);
         int b = argument(14);
         int c = argument(2);
@@ -150,7 +137,7 @@ public final class OracleTest {
             case 5: undoAndRedo(m, p); break;
             case 6: turnAll(m, p); break;
             case 7: if (draw(4) == 0) DUE.is(of + "clear", m.clear(), p.clear()); break;
-            case 8: if (draw(4) == 0) build(m, p); break;
+            case 8: if (draw(4) == 0 && left >= DEAREST_NET) build(m, p); break;
             case 9: DUE.is(of + "turn", m.turn(b), p.turn(b)); break;
             case 10: case 11: case 12: case 13: case 14: case 15: case 16:
                 DUE.is(of + "place", m.place(b, c, v), p.place(b, c, v)); break;
@@ -182,7 +169,7 @@ public final class OracleTest {
         int side = argument(1);
         int v = number(draw(2) == 0 ? 20000 : 100000);
         String of = "run " + run + ": ";
-        switch (draw(16)) {
+        switch (draw(17)) {
             case 0: DUE.is(of + "fault", m.fault(side), p.fault(side)); break;
             case 1: int what = argument(5); DUE.is(of + "many", m.many(level, what), p.many(level, what)); break;
             case 2: case 3: int c = argument(170); DUE.is(of + "at", m.at(level, c, axis), p.at(level, c, axis)); break;
@@ -197,7 +184,8 @@ public final class OracleTest {
             case 12: int y = number(15000);
                 DUE.is(of + "near", m.near(level, v, y, -y), p.near(level, v, y, -y)); break;
             case 13: int d = argument(1000); DUE.is(of + "moved", m.moved(level, d, axis), p.moved(level, d, axis)); break;
-            case 14: DUE.is(of + "cause", m.cause(), p.cause()); DUE.is(of + "count", m.count(level), p.count(level)); break;
+            case 14: DUE.is(of + "cause", m.cause(), p.cause()); break;
+            case 15: DUE.is(of + "count", m.count(level), p.count(level)); break;
             default: DUE.is(of + "digest", m.digest(), p.digest()); break;
         }
     }
